@@ -1,0 +1,29 @@
+/** Makes objects to begin a test with. */
+final class Make {
+    private Make() {
+    }
+
+    /** The first nodes are samples, the others are not. */
+    static LineageTables nodes(int samples, int... times) {
+        LineageTables x = new LineageTables();
+        for (int i = 0; i < times.length; i++) {
+            x.node(times[i], i < samples);
+        }
+        return x;
+    }
+
+    /**
+     * Samples 0, 1, 2 of time 0; 3, 4, 5 of times 10, 20, 30. Everywhere 3 is the parent of 0, and 4 of 2 and 3;
+     * 1 has 3 as its parent up to place 29 and 4 from there; 5 is the parent of 4 at the places 10 .. 19.
+     */
+    static LineageTables threeSamples() {
+        LineageTables x = nodes(3, 0, 0, 0, 10, 20, 30);
+        x.join(0, 60, 3, 0);
+        x.join(0, 30, 3, 1);
+        x.join(30, 60, 4, 1);
+        x.join(0, 60, 4, 2);
+        x.join(0, 60, 4, 3);
+        x.join(10, 20, 5, 4);
+        return x;
+    }
+}
