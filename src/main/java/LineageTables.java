@@ -379,7 +379,7 @@ public final class LineageTables {
         return end;
     }
 
-    /** Where the first place of edge i of the child stands in the parents; NONE if there is no such edge. */
+    /** Where in the parents edge i begins, its first place and its child in one number; NONE if there is none. */
     private int findEdge(int i) {
         int passed = 0;
         int p = nextByTime(NONE);

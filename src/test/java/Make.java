@@ -26,4 +26,16 @@ final class Make {
         x.join(10, 20, 5, 4);
         return x;
     }
+
+    /** Fourteen nodes, each at all places the parent of the one before it; the first is a sample. */
+    static LineageTables longestChain(boolean isSampleOnTop) {
+        LineageTables x = new LineageTables();
+        for (int n = 0; n < 14; n++) {
+            x.node(n, n == 0 || n == 13 && isSampleOnTop);
+        }
+        for (int n = 0; n < 13; n++) {
+            x.join(0, 60, n + 1, n);
+        }
+        return x;
+    }
 }

@@ -87,13 +87,7 @@ public final class ReadingTest {
         Check.same("not in one tree", x.meet(20, 5, 0), LineageTables.NONE);
         x.part(0, 60, 2);
         Check.same("not in one tree any more", x.meet(0, 2, 0), LineageTables.NONE);
-        LineageTables chain = new LineageTables();
-        for (int n = 0; n < 14; n++) {
-            chain.node(n, false);
-        }
-        for (int n = 0; n < 13; n++) {
-            chain.join(3, 4, n + 1, n);
-        }
+        LineageTables chain = Make.longestChain(false);
         Check.same("up the longest chain", chain.meet(3, 0, 13), 13);
         Check.same("up it from the other", chain.meet(3, 13, 0), 13);
     }
@@ -130,5 +124,9 @@ public final class ReadingTest {
         x.mutate(1, 1, 2);
         x.mutate(0, 5, 1);
         Check.same("with mutations", Reading.letters(x), "300301 020000");
+        LineageTables chain = Make.longestChain(false);
+        chain.site(3, 0);
+        chain.mutate(0, 13, 2);
+        Check.same("down the longest chain", Reading.letters(chain), "22222222222222");
     }
 }

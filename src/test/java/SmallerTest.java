@@ -13,6 +13,7 @@ public final class SmallerTest {
         promise18MutationsGoOver();
         promise18LowestMutationCounts();
         promise18MutationsGo();
+        promise18LongestChain();
         promise18Twice();
         promise18KeepsWhatSamplesHave();
         promise19Became();
@@ -140,6 +141,20 @@ public final class SmallerTest {
         Check.same("mutations", x.count(4), 1);
         Check.same("letters", Reading.letters(x), "000 111");
         Check.same("the one that stays", x.mutate(1, 2, -1), 1);
+    }
+
+    private static void promise18LongestChain() {
+        LineageTables x = Make.longestChain(false);
+        x.site(59, 0);
+        x.mutate(0, 13, 2);
+        Check.same("the sample alone", x.simplify(), 1);
+        Check.same("has it from the top", x.mutate(0, 0, -1), 2);
+        LineageTables tops = Make.longestChain(true);
+        tops.site(59, 0);
+        tops.mutate(0, 12, 3);
+        Check.same("a sample at the bottom and one on top", tops.simplify(), 2);
+        Check.same("are joined", Reading.edges(tops), "0-60:1>0");
+        Check.same("and the mutation goes to the lower", Reading.letters(tops), "30");
     }
 
     private static void promise18Twice() {

@@ -45,6 +45,8 @@ public final class SumsTest {
         Check.same("had by two", x.spectrum(2), 1);
         Check.same("had by three", x.spectrum(3), 1);
         Check.same("had by four", x.spectrum(4), 0);
+        x.mutate(2, 0, 0);
+        Check.same("had by one with letter 0", x.spectrum(1), 3);
         Check.same("spectrum(0)", x.spectrum(0), 0);
         Check.same("spectrum(-1)", x.spectrum(-1), 0);
         Check.same("spectrum(" + Integer.MIN_VALUE + ")", x.spectrum(Integer.MIN_VALUE), 0);
