@@ -5,14 +5,20 @@ final class Check {
     }
 
     private static int wrong = 0;
+    private static String sentence = "";
 
     private Check() {
+    }
+
+    /** The document's words by which the answers are due from here on, so that a fault names what it breaks. */
+    static void sentence(String words) {
+        sentence = "\"" + words + "\" ";
     }
 
     static void same(String what, Object got, Object due) {
         if (!got.equals(due)) {
             wrong++;
-            System.out.println(what + " answered " + got + ", due is " + due);
+            System.out.println(sentence + what + " answered " + got + ", due is " + due);
         }
     }
 

@@ -38,4 +38,19 @@ final class Make {
         }
         return x;
     }
+
+    /** Fourteen nodes without parents and eight sites, and for each node and site a mutation. */
+    static LineageTables fullOfMutations() {
+        LineageTables x = new LineageTables();
+        for (int n = 0; n < 14; n++) {
+            x.node(n, true);
+        }
+        for (int site = 0; site < 8; site++) {
+            x.site(site * 8, site % 4);
+            for (int n = 0; n < 14; n++) {
+                x.mutate(site, n, (site + n) % 4);
+            }
+        }
+        return x;
+    }
 }

@@ -8,11 +8,31 @@ final class Reading {
         for (int what = 0; what < 5; what++) {
             text.append(x.count(what)).append(what < 4 ? " " : " times");
         }
-        for (int n = 0; n < x.count(0); n++) {
+        int nodes = x.count(0);
+        for (int n = 0; n < nodes; n++) {
             text.append(' ').append(x.time(n));
         }
         text.append(" edges ").append(edges(x)).append(" letters ").append(letters(x));
         return text.append(" area ").append(x.area()).toString();
+    }
+
+    /** All of it, and once more when it was made smaller: what a call left behind unseen may show then. */
+    static String whole(LineageTables x) {
+        StringBuilder text = new StringBuilder(of(x)).append(" cuts ").append(cuts(x));
+        text.append(" became").append(became(x)).append(" differing ").append(x.differing()).append(" spectrum");
+        for (int k = 0; k <= 14; k++) {
+            text.append(' ').append(x.spectrum(k));
+        }
+        text.append(" smaller ").append(x.simplify()).append(' ').append(of(x));
+        return text.append(" became").append(became(x)).toString();
+    }
+
+    static String became(LineageTables x) {
+        StringBuilder text = new StringBuilder();
+        for (int n = 0; n < 14; n++) {
+            text.append(' ').append(x.became(n));
+        }
+        return text.toString();
     }
 
     /** Every edge in order, written left-right:parent>child. */
