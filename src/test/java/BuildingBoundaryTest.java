@@ -164,7 +164,7 @@ public final class BuildingBoundaryTest {
         void check(int left, int right, String due);
     }
 
-    /** Every left and right from just below the bounds to just above; due is how many places they hold, or the refusal. */
+    /** Every left and right from below the bounds to above them; due is how many places they hold, or the refusal. */
     private static void forRunsRoundTheBounds(RunCheck one) {
         for (int left = -2; left <= 62; left++) {
             for (int right = -2; right <= 62; right++) {
