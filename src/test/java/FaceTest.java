@@ -6,7 +6,7 @@ import java.util.Arrays;
 import java.util.List;
 import java.util.stream.Collectors;
 
-/** The class has the members of the document's face, and all others are private. */
+/** The class has the members of the document's face; all others are private, and none of them has such a name. */
 public final class FaceTest {
     private static final String INDEX = "IndexOutOfBoundsException";
     private static final String ARGUMENT = "IllegalArgumentException";
@@ -44,7 +44,14 @@ public final class FaceTest {
                 .map(Constructor::toString).collect(Collectors.toList());
         Check.same("constructors", constructors, List.of("public LineageTables()"));
         Check.same("NONE", LineageTables.NONE, -1);
+        Check.same("private methods with a name of the face", privateNames(face).stream()
+                .filter(name -> METHODS.stream().anyMatch(m -> m.startsWith(name + "("))).count(), 0L);
         Check.end();
+    }
+
+    private static List<String> privateNames(Class<?> face) {
+        return Arrays.stream(face.getDeclaredMethods()).filter(m -> Modifier.isPrivate(m.getModifiers()))
+                .map(Method::getName).collect(Collectors.toList());
     }
 
     private static String written(Method m) {

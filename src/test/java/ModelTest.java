@@ -2,13 +2,12 @@
 public final class ModelTest {
     private static final int RUNS = 300;
 
-    /** A plain row of numbers, the same in every run, so that a fault can be seen again. */
-    private long seed;
+    private final Numbers numbers;
     private final Twins twins;
     private final int timeBound;
 
     private ModelTest(int run) {
-        seed = run;
+        numbers = new Numbers(run);
         twins = new Twins("run " + run);
         // Few times make many that are the same; many let chains grow long.
         timeBound = run % 3 == 0 ? 4 : run % 3 == 1 ? 20 : 1001;
@@ -106,7 +105,6 @@ public final class ModelTest {
     }
 
     private int below(int bound) {
-        seed = seed * 6364136223846793005L + 1442695040888963407L;
-        return (int) ((seed >>> 33) % bound);
+        return numbers.below(bound);
     }
 }
